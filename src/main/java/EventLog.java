@@ -46,8 +46,8 @@ public final class EventLog {
   /** An event has at least two bytes: its site and its time. */
   private static final int LINES_MOST = BLOCKS_MOST * (ROOM / 2);
 
-  /** A slot has at least one byte; a block's last, cut event may leave six values behind the rest. */
-  private static final int VALUES_MOST = BLOCKS_MOST * ROOM + SLOTS_MOST;
+  /** A block has fewer slots than bytes: each has one at least, and their event two more. */
+  private static final int VALUES_MOST = BLOCKS_MOST * ROOM;
 
   private static final int PRINTED_MOST = FORMAT_MOST + SLOTS_MOST * TEXT_MOST;
 
@@ -357,7 +357,7 @@ public final class EventLog {
   private static int addIfNew(int[] ordered, int used, int number) {
     int low = 0;
     int high = used;
-    for (int k = 0; k < Integer.SIZE && low < high; k++) {
+    for (int k = 0; k < LINES_MOST && low < high; k++) {
       int middle = (low + high) >>> 1;
       if (ordered[middle] < number) {
         low = middle + 1;
@@ -783,7 +783,9 @@ public final class EventLog {
       int place = site * SLOTS_MOST + slot;
       int code = takeByte();
       if (code == WHOLE) {
-        lasts[place] = takeInt();
+        for (int k = 0; k < 4; k++) {
+          lasts[place] = lasts[place] << 8 | takeByte();
+        }
       } else if (code != SAME) {
         int step = code - NEAR;
         bad = bad || step == 0 || step < -NEAR_MOST || step > NEAR_MOST;
@@ -812,14 +814,6 @@ public final class EventLog {
       int b = bytes[at];
       at++;
       return b;
-    }
-
-    private int takeInt() {
-      int value = 0;
-      for (int k = 0; k < 4; k++) {
-        value = value << 8 | takeByte();
-      }
-      return value;
     }
   }
 
@@ -879,23 +873,17 @@ public final class EventLog {
       System.arraycopy(file.bytes, 0, copy, 0, file.used);
       int blocks = file.used / BLOCK;
       events = 0;
-      valuesUsed = 0;
       brokenBlocks = file.used % BLOCK == 0 ? 0 : 1;
       for (int k = 0; k < blocks; k++) {
-        readBlock(k);
+        heads[k] = events;
+        valuesUsed = k * ROOM;
+        if (!isHeadRight(k * BLOCK) || !areEventsRight(k * BLOCK)) {
+          brokenBlocks++;
+          events = heads[k];
+        }
+        ends[k] = events;
       }
       mergeBlocks(blocks);
-    }
-
-    private void readBlock(int block) {
-      heads[block] = events;
-      int valuesBefore = valuesUsed;
-      if (!isHeadRight(block * BLOCK) || !areEventsRight(block * BLOCK)) {
-        brokenBlocks++;
-        events = heads[block];
-        valuesUsed = valuesBefore;
-      }
-      ends[block] = events;
     }
 
     private boolean isHeadRight(int at) {
