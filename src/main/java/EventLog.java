@@ -150,11 +150,7 @@ public final class EventLog {
     }
     int end = by.pack(site, time, arguments, given);
     if (end > ROOM) {
-      if (file.isFull()) {
-        throw new UnsupportedOperationException();
-      }
-      file.append(by);
-      by.startNextBlock();
+      sendBlock(by);
       end = by.pack(site, time, arguments, given);
     }
     by.keepPacked(end, site, time, arguments, given);
@@ -171,11 +167,7 @@ public final class EventLog {
     }
     Writer by = writers[writer];
     if (by.used > 0) {
-      if (file.isFull()) {
-        throw new UnsupportedOperationException();
-      }
-      file.append(by);
-      by.startNextBlock();
+      sendBlock(by);
     }
     file.durable = file.used;
     return file.used / BLOCK;
@@ -334,6 +326,14 @@ public final class EventLog {
       }
     }
     return seen;
+  }
+
+  private void sendBlock(Writer by) throws UnsupportedOperationException {
+    if (file.isFull()) {
+      throw new UnsupportedOperationException();
+    }
+    file.append(by);
+    by.startNextBlock();
   }
 
   private static boolean isWriter(int writer) {

@@ -66,7 +66,7 @@ public final class FileTest {
   private static void rotate() {
     EventLog log = plain();
     Check.site(log, "{t}");
-    log.log(0, 0, 50);
+    Check.log(log, 0, 1, 50, "much older");
     Check.log(log, 1, 1, 60, "old");
     log.log(2, 0, 70);
     log.flush(0);
@@ -91,6 +91,14 @@ public final class FileTest {
     log.rotate();
     Check.due("open of nothing", log.open(), 0);
     Check.due("none broken", log.broken(), 0);
+    log.log(0, 0, 0);
+    log.flush(0);
+    log.rotate();
+    for (int k = 0; k < 120; k++) {
+      log.log(0, 0, 0);
+    }
+    Check.due("a block that no flush made durable", log.size(), 256);
+    Check.due("what was durable before is no measure", log.crash(10), 10);
   }
 
   private static void crash() {

@@ -150,6 +150,7 @@ public final class LogTest {
     Check.fails("none", IllegalArgumentException.class, () -> Check.log(log, 0, 0, 0));
     Check.fails("too many", IllegalArgumentException.class, () -> Check.log(log, 0, 0, 0, 1, "", 1));
     Check.fails("the wrong way round", IllegalArgumentException.class, () -> Check.log(log, 0, 0, 0, "", 1));
+    Check.fails("two texts", IllegalArgumentException.class, () -> Check.log(log, 0, 0, 0, "", ""));
     Check.fails("two numbers", IllegalArgumentException.class, () -> Check.log(log, 0, 0, 0, 1, 0));
     Check.fails("time -1", IllegalArgumentException.class, () -> Check.log(log, 0, 0, -1, 1, ""));
     Check.fails("the least time", IllegalArgumentException.class, () -> Check.log(log, 0, 0, Long.MIN_VALUE, 1, ""));

@@ -159,6 +159,15 @@ public final class QueryTest {
     log.where(1, 0, 0);
     Check.due("of writer 0", log.distinct(0), 2);
     Check.due("of writer 0", log.distinct(1), 0);
+    EventLog rising = new EventLog();
+    Check.site(rising, "{d}");
+    for (int k = -3; k < 5; k++) {
+      Check.log(rising, 0, 0, 0, k);
+    }
+    rising.flush(0);
+    rising.open();
+    Check.due("rising", rising.distinct(0), 8);
+    Check.due("once more", rising.distinct(0), 8);
     EventLog many = new EventLog();
     Check.site(many, "{d}{x}");
     Check.site(many, "{x}{t}");

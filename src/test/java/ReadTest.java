@@ -13,6 +13,7 @@ public final class ReadTest {
     sites();
     whatIsNotLookedAt();
     mostLines();
+    readAgainAndAgain();
     Check.end();
   }
 
@@ -123,6 +124,25 @@ public final class ReadTest {
     Check.damage(none, 12, 0, 0);
     Check.mendSum(none, 0);
     read("n 0, no events", none, 1, 0);
+    none.damage(4, 128);
+    Check.mendSum(none, 0);
+    read("n 0, and a time below 0", none, 1, 1);
+    tooManyBytes(238, 0);
+    tooManyBytes(239, 1);
+    tooManyBytes(240, 1);
+  }
+
+  /** Pairs of zeros, and a text that goes on into the sum: right events all, but for n. */
+  private static void tooManyBytes(int n, int broken) {
+    EventLog log = new EventLog();
+    log.site();
+    Check.site(log, "{t}");
+    log.log(0, 0, 0);
+    log.flush(0);
+    log.damage(13, n);
+    Check.damage(log, 248, 1, 0, n - 237);
+    Check.mendSum(log, 0);
+    read("n " + n, log, broken == 0 ? 118 : 0, broken);
   }
 
   private static void sums() {
@@ -181,6 +201,8 @@ public final class ReadTest {
     events("no size", false, 0, 1, 0);
     events("two of three bytes", false, 0, 1, 0, 3, 97, 97);
     events("no bytes", true, 1, 1, 0, 0);
+    events("too long before what would be events", false, 0, 1, 0, 17, 2, 0, 2, 0, 2, 0, 2, 0, 2, 0, 2, 0, 2, 0, 2, 0, 2, 0);
+    events("cut before what would be an event", false, 0, 1, 0, 3, 2, 0);
   }
 
   private static void vars() {
@@ -190,6 +212,8 @@ public final class ReadTest {
     events("nine bytes", true, 1, 2, 128, 128, 128, 128, 128, 128, 128, 128, 1);
     events("nine bytes, the last 0", false, 0, 2, 128, 128, 128, 128, 128, 128, 128, 128, 0);
     events("ten bytes", false, 0, 2, 128, 128, 128, 128, 128, 128, 128, 128, 128, 1);
+    events("ten bytes, the last of them without a bit that counts", false, 0, 2, 128, 128, 128, 128, 128, 128, 128, 128, 128, 2);
+    events("a site in ten bytes", false, 0, 130, 128, 128, 128, 128, 128, 128, 128, 128, 1, 0);
     events("cut", false, 0, 2, 128);
     events("a site, cut", false, 0, 128);
     events("a far site", false, 0, 255, 255, 255, 255, 255, 255, 255, 255, 127, 0);
@@ -221,6 +245,19 @@ public final class ReadTest {
   private static void whatIsNotLookedAt() {
     headIs("the block's number", true, 2, 200, 200);
     headIs("what is behind the events", true, 16, 1, 2, 3);
+  }
+
+  private static void readAgainAndAgain() {
+    EventLog log = new EventLog();
+    Check.site(log, "{d}{d}{d}{d}{d}{d}");
+    for (int k = 0; k < 29; k++) {
+      Check.log(log, 0, 0, 0, k, k, k, k, k, k);
+    }
+    log.flush(0);
+    for (int k = 0; k < 100; k++) {
+      Check.due("open", log.open(), 29);
+      Check.due("the last number", log.about(28, 5), 28);
+    }
   }
 
   private static void mostLines() {

@@ -95,6 +95,9 @@ public final class SiteTest {
     fault(SIX + "x".repeat(61) + "{{", 80);
     fault(SIX + "x".repeat(61) + "{", 79);
     fault("{t}{u}{x}{f6}{e7}{d}{f1}", 20);
+    EventLog log = new EventLog();
+    Check.site(log, "x".repeat(18) + "{{{{");
+    Check.due("a text before it does not count", Check.site(log, SIX + "{"), -19);
   }
 
   private static void firstFaultCounts() {
