@@ -1,13 +1,26 @@
+import java.util.ArrayList;
+import java.util.List;
+
 /** What the tests share: calls with the answer or the exception that is due, and ways to type and read texts. */
 final class Check {
   interface Call {
     long answer();
   }
 
+  interface Steps {
+    void on(Counted log);
+  }
+
   private static int checks = 0;
   private static int wrong = 0;
+  private static String sentence = "";
 
   private Check() {}
+
+  /** The words of the document that the checks from here on are of. */
+  static void sentence(String words) {
+    sentence = words;
+  }
 
   static void due(String what, long got, long want) {
     checks++;
@@ -23,20 +36,33 @@ final class Check {
     }
   }
 
+  static void holds(String what, boolean answer) {
+    due(what, answer ? 1 : 0, 1);
+  }
+
   static void fails(String what, Class<? extends RuntimeException> want, Call call) {
-    checks++;
+    due(what, outcome(call), want.getSimpleName());
+  }
+
+  static void refuses(String what, Class<? extends RuntimeException> want, Counted log, Steps steps) {
+    fails(what, want, () -> {
+      steps.on(log);
+      return 0;
+    });
+  }
+
+  /** The answer of a call, or the name of the exception that it throws. */
+  static String outcome(Call call) {
     try {
-      report(what + " answered " + call.answer() + ", due is " + want.getSimpleName());
+      return Long.toString(call.answer());
     } catch (RuntimeException e) {
-      if (e.getClass() != want) {
-        report(what + " threw " + e + ", due is " + want.getSimpleName());
-      }
+      return e.getClass().getSimpleName();
     }
   }
 
   static void report(String text) {
     wrong++;
-    System.out.println(text);
+    System.out.println(text + (sentence.isEmpty() ? "" : "\n    the document: " + sentence));
   }
 
   static void end() {
@@ -46,84 +72,84 @@ final class Check {
     }
   }
 
-  static void type(EventLog log, String text) {
-    for (int k = 0; k < text.length(); k++) {
-      if (!log.type(text.charAt(k), 1)) {
-        report("typing failed at byte " + k + " of '" + text + "'");
+  static void type(Counted log, String text) {
+    for (int from = 0; from < text.length(); from += 8) {
+      int n = Math.min(8, text.length() - from);
+      long word = 0;
+      for (int k = 0; k < n; k++) {
+        word |= (long) text.charAt(from + k) << (8 * k);
+      }
+      if (!log.type(word, n)) {
+        report("typing failed at byte " + from + " of '" + text + "'");
       }
     }
   }
 
-  static int site(EventLog log, String format) {
+  static int site(Counted log, String format) {
     type(log, format);
     return log.site();
   }
 
-  static void name(EventLog log, int table, int code, String text) {
+  static void name(Counted log, int table, int code, String text) {
     type(log, text);
     log.name(table, code);
   }
 
-  static int search(EventLog log, String text) {
+  static int text(Counted log, String text) {
+    type(log, text);
+    return log.text();
+  }
+
+  static int search(Counted log, String text) {
     type(log, text);
     return log.search();
   }
 
   /** Logs with arguments that are Integers or Strings. */
-  static int log(EventLog log, int writer, int site, long time, Object... arguments) {
+  static int log(Counted log, int writer, int site, long time, Object... arguments) {
     give(log, arguments);
     return log.log(writer, site, time);
   }
 
-  static void give(EventLog log, Object... arguments) {
+  static void give(Counted log, Object... arguments) {
     for (Object argument : arguments) {
       if (argument instanceof String) {
-        type(log, (String) argument);
-        log.text();
+        text(log, (String) argument);
       } else {
         log.arg((Integer) argument);
       }
     }
   }
 
-  static String line(EventLog log, int line) {
+  /** An object that has read one event of a format, as its line 0. */
+  static Counted oneLine(String format, Object... arguments) {
+    Counted log = new Counted();
+    due("site of " + format, site(log, format), 0);
+    log(log, 0, 0, 0, arguments);
+    log.flush(0);
+    due("lines", log.open(), 1);
+    return log;
+  }
+
+  static void prints(String due, String format, Object... arguments) {
+    due(format + " printed", line(oneLine(format, arguments), 0), due);
+  }
+
+  static String line(Counted log, int line) {
     StringBuilder text = new StringBuilder();
-    for (int k = 0; k < log.length(line); k++) {
+    int length = log.length(line);
+    for (int k = 0; k < length; k++) {
       text.append((char) log.letter(line, k));
     }
     return text.toString();
   }
 
-  /** The bytes of the file from one place on, each behind a blank. */
-  static String bytes(EventLog log, int from, int count) {
-    StringBuilder text = new StringBuilder();
+  /** The bytes of the file from one place on, with blanks between them. */
+  static String bytes(Counted log, int from, int count) {
+    List<String> bytes = new ArrayList<>();
     for (int k = 0; k < count; k++) {
-      text.append(k == 0 ? "" : " ").append(log.byteOf(from + k));
+      bytes.add(Integer.toString(log.byteOf(from + k)));
     }
-    return text.toString();
-  }
-
-  static void damage(EventLog log, int from, int... bytes) {
-    for (int k = 0; k < bytes.length; k++) {
-      log.damage(from + k, bytes[k]);
-    }
-  }
-
-  /** Makes a block's sum the right one again, in at most four calls. */
-  static void mendSum(EventLog log, int block) {
-    int sum = 0;
-    for (int k = 0; k < 252; k++) {
-      sum = sum * 31 + log.byteOf(256 * block + k);
-    }
-    for (int k = 0; k < 4; k++) {
-      log.damage(256 * block + 252 + k, sum >>> (24 - 8 * k));
-    }
-  }
-
-  /** Block 0 gets these bytes of events, under a right sum. */
-  static void putEvents(EventLog log, int... bytes) {
-    damage(log, 12, bytes.length >> 8, bytes.length);
-    damage(log, 14, bytes);
-    mendSum(log, 0);
+    return String.join(" ", bytes);
   }
 }

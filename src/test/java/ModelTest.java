@@ -62,21 +62,13 @@ public final class ModelTest {
     }
   }
 
-  private static String outcome(Check.Call call) {
-    try {
-      return Long.toString(call.answer());
-    } catch (RuntimeException e) {
-      return e.getClass().getSimpleName();
-    }
-  }
-
   /** Makes one call of both; the answer, or -1 for an exception. */
   private long both(String call, Check.Call real, Check.Call due) {
     if (told.size() >= 512 || !agreed) {
       return -1;
     }
-    String got = outcome(real);
-    String want = outcome(due);
+    String got = Check.outcome(real);
+    String want = Check.outcome(due);
     told.add(call + " -> " + got);
     agreed = got.equals(want);
     if (!agreed) {
