@@ -11,9 +11,11 @@ public final class FileTest {
     flushMakesAllDurable();
     flushWhenThereIsNoRoom();
     flushOfNothingNeedsNoRoom();
+    blocksAtMost();
     rotatedFileIsEmpty();
     rotatedFileIsNotCut();
     rotatedFileHasNoEvents();
+    rotatedFileHasNoBytesOfBefore();
     rotatedFileIsNotDurable();
     linesStay();
     crashLeavesWhatIsDurable();
@@ -123,6 +125,26 @@ public final class FileTest {
     Check.due("all is durable", log.crash(0), 24 * 256);
   }
 
+  private static void blocksAtMost() {
+    Check.sentence("The file has 24 blocks at most.");
+    Counted log = plain();
+    for (int k = 0; k < 22; k++) {
+      write(log, k % 4, 1);
+    }
+    overflow(log, 0);
+    Check.due("23", log.size(), 23 * 256);
+    log.log(1, 0, 0);
+    Check.due("24", log.flush(1), 24);
+    Check.fails("no 25th by a flush", UnsupportedOperationException.class, () -> log.flush(0));
+    for (int k = 1; k < 119; k++) {
+      log.log(0, 0, 0);
+    }
+    Check.fails("nor by an event", UnsupportedOperationException.class, () -> log.log(0, 0, 0));
+    Check.due("24 still", log.size(), 24 * 256);
+    Check.due("119 of one, 23 more", log.open(), 119 + 23);
+    Check.due("each is whole", log.broken(), 0);
+  }
+
   private static void rotatedFileIsEmpty() {
     Check.sentence("A new file, which is empty (not cut; writers have had no event in it); what writers had in their blocks is gone; THE LINES stay.");
     Counted log = plain();
@@ -169,7 +191,19 @@ public final class FileTest {
       Check.due("any time is right", log.log(writer, 0, 0), 2);
     }
     log.flush(1);
-    new Block(1, 0, 0, 0, 0).isInFile("numbered anew, nothing left of what was there", log, 0);
+    new Block(1, 0, 0, 0, 0).isInFile("numbered anew", log, 0);
+  }
+
+  private static void rotatedFileHasNoBytesOfBefore() {
+    Counted log = plain();
+    Check.site(log, "{t}");
+    Check.log(log, 0, 1, 50, "a longer block");
+    log.flush(0);
+    log.damage(200, 77);
+    log.rotate();
+    log.log(1, 0, 60);
+    log.flush(1);
+    new Block(1, 0, 60, 0, 0).isInFile("nothing is left of what was there", log, 0);
   }
 
   private static void rotatedFileIsNotDurable() {

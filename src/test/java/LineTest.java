@@ -27,6 +27,7 @@ public final class LineTest {
     anotherWhat();
     noSuchLine();
     noLinesAtAll();
+    lengths();
     letters();
     Check.end();
   }
@@ -279,6 +280,23 @@ public final class LineTest {
     unread.log(0, 0, 0);
     unread.flush(0);
     noSuchLine(unread, 0);
+  }
+
+  private static void lengths() {
+    Check.sentence("How many bytes a line's text has. NoSuchElementException.");
+    for (int size = 0; size <= 80; size++) {
+      Check.due("a format of " + size, Check.oneLine("x".repeat(size)).length(0), size);
+    }
+    for (int size = 0; size <= 16; size++) {
+      Check.due("a text of " + size, Check.oneLine("{t}", "y".repeat(size)).length(0), size);
+    }
+    Check.due("-5", Check.oneLine("{d}", -5).length(0), 2);
+    Check.due("-0.000005", Check.oneLine("{f6}", -5).length(0), 9);
+    Counted log = Check.oneLine("{e0}", 31);
+    for (int size = 1; size <= 12; size++) {
+      Check.name(log, 0, 31, "y".repeat(size));
+      Check.due("a name of " + size, log.length(0), size);
+    }
   }
 
   private static void letters() {

@@ -28,10 +28,12 @@ public final class LogTest {
     lastIsOfTheSite();
     lastIsOfTheSlot();
     lastIsOfTheBlockAndWriter();
+    lastOfEverySiteAndSlot();
     textsPacked();
     blockOfOneEvent();
     blockThatIsFull();
     blockNumbers();
+    bytesOfEvents();
     fitsIn();
     longestEvent();
     refusedByAFullFile();
@@ -343,6 +345,30 @@ public final class LogTest {
     Check.due("another block", Check.bytes(full, 256 + 14, 3), "0 0 76");
   }
 
+  /** All 40 sites have six slots; each of them has a last of its own, when it is packed and when it is read. */
+  private static void lastOfEverySiteAndSlot() {
+    Counted log = new Counted();
+    for (int site = 0; site < 40; site++) {
+      Check.site(log, (char) ('A' + site) + "{d}{d}{d}{d}{d}{d}");
+    }
+    int[] sites = {39, 0, 38, 1, 20};
+    for (int again = 0; again < 2; again++) {
+      for (int site : sites) {
+        Check.log(log, 0, site, 0, 1000 * site, site + 1, site + 2, site + 3, site + 4, 2000 * site + 1 + again);
+      }
+    }
+    log.flush(0);
+    Check.due("of the first site again, all but one the same", Check.bytes(log, 14 + 72, 16), "39 0 0 0 0 0 0 65 0 0 0 0 0 0 0 65");
+    Check.due("open", log.open(), 10);
+    for (int k = 0; k < 10; k++) {
+      int site = sites[k % 5];
+      Check.due("site", log.about(k, -1), site);
+      Check.due("the first number", log.about(k, 0), 1000 * site);
+      Check.due("the second number", log.about(k, 1), site + 1);
+      Check.due("the last number", log.about(k, 5), 2000 * site + 1 + k / 5);
+    }
+  }
+
   private static void textsPacked() {
     Check.sentence("A text: its size, and its bytes.");
     Counted log = withSite("{t}{t}{t}");
@@ -400,6 +426,22 @@ public final class LogTest {
     log.log(2, 0, 0);
     log.flush(2);
     Check.due("from 0 on in a new file", Check.bytes(log, 0, 4), "90 2 0 0");
+  }
+
+  private static void bytesOfEvents() {
+    Check.sentence("how many bytes of events its block has then.");
+    Counted log = withSite("{d}{t}");
+    Check.site(log, "");
+    Check.due("a site, a time, a number, a size, two bytes", Check.log(log, 0, 0, 5, 1, "ab"), 6);
+    Check.due("with them", log.log(0, 1, 5), 8);
+    Check.due("a time of two bytes", log.log(0, 1, 5 + 128), 11);
+    Check.due("a number of five", Check.log(log, 0, 0, 5 + 128, 100, ""), 19);
+    Check.due("another writer's own", log.log(1, 1, 0), 2);
+    Check.due("its own still", log.log(0, 1, 5 + 128), 21);
+    log.flush(1);
+    Check.due("behind another's flush", log.log(0, 1, 5 + 128), 23);
+    log.flush(0);
+    Check.due("behind its own", log.log(0, 1, 5 + 128), 2);
   }
 
   /** A block of 228 bytes, and one event more. */

@@ -18,6 +18,7 @@ public final class NewObjectTest {
     emptiedByText();
     emptiedBySearch();
     leftByOthers();
+    fiveHundredAndTwelveCalls();
     Check.end();
   }
 
@@ -195,6 +196,22 @@ public final class NewObjectTest {
     isEmpty("a fifth", log);
     Check.refuses("a fifth, too long", IllegalArgumentException.class, log, x -> Check.search(x, "y".repeat(25)));
     isEmpty("a fifth, too long", log);
+  }
+
+  private static void fiveHundredAndTwelveCalls() {
+    Check.sentence("An object is used for at most 512 calls after it has been made;");
+    Counted log = withEmptySite();
+    for (int calls = 1; calls < 505; calls++) {
+      Check.due("log", log.log(0, 0, calls), 2 + 2 * ((calls - 1) % 119));
+    }
+    Check.due("504 events in four blocks and a fifth", log.flush(0), 5);
+    Check.due("lines", log.open(), 504);
+    Check.due("broken", log.broken(), 0);
+    Check.due("the last", log.time(503), 504);
+    Check.due("count", log.count(), 504);
+    Check.due("calls", log.calls(), 510);
+    Check.due("the 511th", log.crash(0), 5 * 256);
+    Check.due("the 512th", log.find(503), 503);
   }
 
   /** Calls that do not take the text leave it. */

@@ -148,6 +148,13 @@ public final class RefusalTest {
   private static void logOfAFullFile() {
     Twins.refused("log of what does not fit in", UNSUPPORTED, Twins::fillFile, log -> Twins.logSixTexts(log, 1, 3));
     Twins.refused("log at a later time", UNSUPPORTED, Twins::fillFile, log -> Twins.logSixTexts(log, 1, 8));
+    Twins.refused("log of a number that would be a last one", UNSUPPORTED, RefusalTest::fillFileAndBlock,
+        log -> Check.log(log, 1, Twins.NUMBER_AND_TEXT, 3, 1000, "y".repeat(16)));
+  }
+
+  private static void fillFileAndBlock(Counted log) {
+    Twins.fillFile(log);
+    Check.due("ten bytes are left", Check.log(log, 1, Twins.NUMBER_AND_TEXT, 3, 45, "y".repeat(16)), 228);
   }
 
   private static void flush() {

@@ -29,6 +29,7 @@ final class Twins {
     ask(what + ": the arguments", before, more, Twins::askArguments);
     ask(what + ": how many arguments", before, more, (log, answers) -> add(answers, () -> log.arg(1)));
     ask(what + ": the writers", before, more, Twins::askWriters);
+    ask(what + ": the last numbers", before, more, Twins::askLastNumbers);
     ask(what + ": what is durable", before, more, Twins::askDurable);
     ask(what + ": the sites", before, more, Twins::askSites);
   }
@@ -137,7 +138,7 @@ final class Twins {
     askNewestBlock(log, answers);
   }
 
-  /** Times that rise tell the last one; how an event is packed tells the last of its numbers. */
+  /** Times that rise tell the last one. */
   private static void askWriters(Counted log, List<String> answers) {
     add(answers, () -> log.log(-1, 0, 0));
     add(answers, log, x -> x.name(-1, 0));
@@ -147,7 +148,19 @@ final class Twins {
         int time = t;
         add(answers, () -> log.log(writer, EMPTY, time));
       }
+      add(answers, () -> log.flush(writer));
+      askNewestBlock(log, answers);
+    }
+  }
+
+  /** How an event is packed tells the last of its numbers. */
+  private static void askLastNumbers(Counted log, List<String> answers) {
+    add(answers, () -> log.log(-1, 0, 0));
+    add(answers, log, x -> x.name(-1, 0));
+    for (int w = 0; w < 4; w++) {
+      int writer = w;
       add(answers, () -> Check.log(log, writer, NUMBER_AND_TEXT, 9, 50, "b"));
+      add(answers, () -> Check.log(log, writer, CODE, 9, 50, 60));
       add(answers, () -> log.flush(writer));
       askNewestBlock(log, answers);
     }
